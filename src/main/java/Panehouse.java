@@ -1472,6 +1472,9 @@ public final class Panehouse {
                 }
                 return;
             }
+            if (!leavesWaiting(sign)) {
+                cursor().waits = false;
+            }
             switch (sign) {
                 case 'm':
                     changeMark();
@@ -1498,13 +1501,17 @@ public final class Panehouse {
                 case 'f':
                 case 'd':
                 case 'r':
-                    cursor().waits = false;
                     move(sign, sequence.atLeastOne(0));
                     break;
                 default:
                     change(sign, sequence.atLeastOne(0));
                     break;
             }
+        }
+
+        /** All signs but these end waiting, also those that do nothing else. */
+        private static boolean leavesWaiting(int sign) {
+            return sign == 'm' || sign == 's' || sign == 'n' || sign == 'h' || sign == 'l';
         }
 
         private void move(int sign, int n) {
@@ -1556,7 +1563,7 @@ public final class Panehouse {
             }
         }
 
-        /** What changes cells and rows; other signs do nothing, so that a waiting cursor goes on waiting. */
+        /** What changes cells and rows; other signs do nothing. */
         private void change(int sign, int n) {
             Cursor cursor = cursor();
             boolean isInRegion = cursor.row >= top && cursor.row <= bottom;
@@ -1594,9 +1601,8 @@ public final class Panehouse {
                     putRowsIn(top, n);
                     break;
                 default:
-                    return;
+                    break;
             }
-            cursor.waits = false;
         }
 
         private void plainOtherRows(int how) {

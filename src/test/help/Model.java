@@ -293,7 +293,7 @@ final class Model {
             }
             int first = numbers.isEmpty() ? 0 : numbers.get(0);
             int second = numbers.size() < 2 ? 0 : numbers.get(1);
-            if ("ABCDGHfdJKX@PLMSTr".indexOf(end) >= 0) {
+            if ("msnhl".indexOf(end) < 0) {
                 s().waits = false;
             }
             act(end, first, second, numbers);

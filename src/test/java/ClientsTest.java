@@ -17,6 +17,7 @@ public final class ClientsTest {
         shownWrong();
         typing();
         commands();
+        commandsWithNumberNought();
         commandsThatCannotBeDone();
         typedBytes();
         Due.end();
@@ -62,10 +63,13 @@ public final class ClientsTest {
         Due.is("left", h.detach(1), 0);
         Due.is("the window's size", h.size(0, true), 12);
         h.attach(8, 5);
+        h.window();
+        h.look(0, 1);
         h.redraw(0);
         h.key(0, 2);
         h.detach(0);
         h.attach(8, 5);
+        Due.is("a new one looks at the least", h.looksAt(0), 0);
         Due.is("a new one shows plain cells", Bytes.shown(h, 0, 4, 8), "........");
         Due.is("a new one keeps nothing back", h.key(0, 'x'), 't');
     }
@@ -110,6 +114,9 @@ public final class ClientsTest {
         Due.is("nothing", h.redraw(0), 0);
         Bytes.feed(h, 0, "\rab~[1mc~[4md");
         Due.is("not shown yet", h.shown(0, 0, 3), ' ');
+        h.attach(10, 7);
+        h.redraw(1);
+        h.detach(1);
         Due.is("a mark and a sign", h.redraw(0), 2);
         Due.is("mark", h.shownMark(0, 0, 2), 1);
         Due.is("mark", h.shownMark(0, 0, 3), 3);
@@ -205,6 +212,12 @@ public final class ClientsTest {
         Bytes.feed(h, 2, "~[?25l");
         h.redraw(0);
         Due.noSuchElement("not shown", () -> h.shownCursor(0, true));
+        long shown = h.shownSum(0);
+        h.choose(1);
+        Bytes.feed(h, 1, "~[?25l");
+        h.redraw(0);
+        Due.is("no place of it is left", h.shownSum(0), shown);
+        h.choose(2);
         Bytes.feed(h, 2, "~[?25h");
         Due.noSuchElement("not redrawn", () -> h.shownCursor(0, true));
         Due.is("nothing but the cursor", h.redraw(0), 0);
@@ -308,10 +321,38 @@ public final class ClientsTest {
         Due.is("n", command(h, 0, 'n'), 'c');
         Due.is("the least behind the greatest", h.looksAt(0), 0);
         Due.is("size", h.size(2, true), 20);
+        h.window();
+        command(h, 0, 'n');
+        Due.is("the very next one", h.looksAt(0), 1);
+        command(h, 0, 'n');
+        Due.is("the very next one", h.looksAt(0), 2);
+        command(h, 0, 'n');
         h.attach(30, 10);
         Due.is("d", command(h, 0, 'd'), 'c');
         Due.outOfBounds("gone", () -> h.looksAt(0));
         Due.is("the window's size", h.size(0, true), 30);
+    }
+
+    private static void commandsWithNumberNought() {
+        Panehouse h = Bytes.house(20, 8);
+        h.split(0, true, 5);
+        h.split(1, true, 5);
+        h.swap(0, 1);
+        h.choose(1);
+        command(h, 0, 'o');
+        Due.is("the next one is 0", h.active(0), 0);
+        h.choose(1);
+        h.close(0);
+        Due.is("% with 0 free", command(h, 0, '%'), 'c');
+        Due.is("its number", h.active(0), 0);
+        h.close(0);
+        Due.is("c with 0 free", command(h, 0, 'c'), 'c');
+        Due.is("its number", h.active(1), 0);
+        h.close(1);
+        h.close(2);
+        Due.is("looks at", h.looksAt(0), 1);
+        Due.is("c with window 0 free", command(h, 0, 'c'), 'c');
+        Due.is("looks at", h.looksAt(0), 0);
     }
 
     private static void commandsThatCannotBeDone() {

@@ -52,6 +52,11 @@ public final class ScreenTest {
         h.feed(0, 127);
         h.feed(0, 0);
         is("nor by other bytes", h, "efgh/ijk.", "1,3");
+        h.feed(0, 126);
+        Due.is("126 is written", h.cell(0, 1, 3), 126);
+        h.feed(0, '\r');
+        h.feed(0, 32);
+        Due.is("32 is written", h.cell(0, 1, 0), ' ');
     }
 
     private static void controls() {
@@ -121,6 +126,8 @@ public final class ScreenTest {
         Bytes.feed(h, 0, "~[4lr");
         Due.is("inserting", h.state(0, 'i'), 0);
         is("written over", h, "axyz/qr..", "1,2");
+        h.resize(0, 6, 3);
+        is("the last one is lost for ever", h, "axyzqr/......", "1,0");
     }
 
     private static void scrolling() {
@@ -233,6 +240,8 @@ public final class ScreenTest {
         Due.is("13 ends it, and is done", Bytes.row(h, 0, 0), "Cy..................");
         Bytes.feed(h, 0, "~[2~[3Cz");
         Due.is("27 begins a new one", Bytes.row(h, 0, 0), "Cy...z..............");
+        Bytes.feed(h, 0, "~[1?47h~[47?h");
+        Due.is("? stands only behind [", h.state(0, 'a'), 0);
         Bytes.feed(h, 0, "~[?3C~[?C~[?H~[?J~[?m");
         Due.is("with ? nothing", Bytes.cursor(h, 0), "0,6");
         Bytes.feed(h, 0, "~[0000000002C");
@@ -280,6 +289,11 @@ public final class ScreenTest {
         Due.is("from above to its bottom", Bytes.cursor(h, 0), "4,0");
         Bytes.feed(h, 0, "~[6d~[99B");
         Due.is("below it to the last row", Bytes.cursor(h, 0), "5,0");
+        Bytes.feed(h, 0, "~[3d~[A");
+        Due.is("A at its top", Bytes.cursor(h, 0), "2,0");
+        Bytes.feed(h, 0, "~[5d~[B");
+        Due.is("B at its bottom", Bytes.cursor(h, 0), "4,0");
+        Bytes.feed(h, 0, "~[6d");
         Bytes.feed(h, 0, "~[99A");
         Due.is("from below to its top", Bytes.cursor(h, 0), "2,0");
         Bytes.feed(h, 0, "~[?6h");
@@ -359,7 +373,9 @@ public final class ScreenTest {
         is("above the region", h, "abcd/efgh/ijkl/mnop", "1,2");
         Bytes.feed(h, 0, "~[1;2r~[3;3H~[L~[M");
         is("below the region", h, "abcd/efgh/ijkl/mnop", "2,2");
-        Bytes.feed(h, 0, "~[1;1H~[M");
+        Bytes.feed(h, 0, "~[2;1H~[L");
+        is("at its bottom", h, "abcd/..../ijkl/mnop", "1,0");
+        Bytes.feed(h, 0, "efgh~[1;1H~[M");
         is("at row 0", h, "efgh/..../ijkl/mnop", "0,0");
         Due.is("M does not keep", h.state(0, 'p'), 0);
         Bytes.feed(h, 0, "~[r~[99S");
@@ -467,7 +483,9 @@ public final class ScreenTest {
         Due.is("rows of it are not kept", h.state(0, 'p'), 0);
         Bytes.feed(h, 0, "~[?47l");
         is("the first one as it was", h, "abcd/....", "0,3w");
-        Bytes.feed(h, 0, "ijklm");
+        Bytes.feed(h, 0, "ijklm~[?47hn~[?47l~[?47h");
+        is("plain once more", h, "..../....", "0,0");
+        Bytes.feed(h, 0, "~[?47l");
         Due.is("kept", h.state(0, 'p'), 1);
         Bytes.feed(h, 0, "~[?47hx");
         Due.is("kept", h.state(0, 'p'), 1);
@@ -485,10 +503,15 @@ public final class ScreenTest {
             Due.is("waits behind " + end, h.state(0, 'w'), "msnhl".indexOf(end) >= 0 ? 1 : 0);
         }
         Panehouse h = Bytes.house(4, 2);
-        Bytes.feed(h, 0, "abcd~[z~[?5A~[1:A~[u");
+        Bytes.feed(h, 0, "abcd~[u");
         Due.is("u restores", Bytes.cursor(h, 0), "0,0");
-        Bytes.feed(h, 0, "~[1;4Hx~[z~[?5A~[1:A");
+        Bytes.feed(h, 0, "~[1;4Hx~[?5A~[1:A~[1;2;3;4;5A");
         Due.is("what does nothing", Bytes.cursor(h, 0), "0,3w");
+        for (String end : new String[] {"z", "3J", "9K", "5;2r"}) {
+            Bytes.feed(h, 0, "~[1;4Hx~[" + end);
+            Due.is("waits no more behind " + end, Bytes.cursor(h, 0), "0,3");
+        }
+        Bytes.feed(h, 0, "x");
         Bytes.feed(h, 0, "~[?6h");
         Due.is("origin goes", Bytes.cursor(h, 0), "0,0");
     }

@@ -13,6 +13,7 @@ public final class WindowsTest {
         closing();
         swapping();
         swappingOfTwoWindows();
+        newPaneWithAnOldNumber();
         choosing();
         zooming();
         placing();
@@ -152,6 +153,9 @@ public final class WindowsTest {
         Due.is("rows", h.size(1, false), 19);
         h.look(1, 0);
         Due.is("what it had", h.size(1, false), 19);
+        h.attach(20, 9);
+        Due.is("least of the rows less 1", h.size(0, false), 8);
+        h.detach(2);
         h.resize(1, 60, 24);
         Due.is("columns", h.size(0, true), 30);
         h.detach(0);
@@ -240,6 +244,26 @@ public final class WindowsTest {
         Due.outOfBounds("the window is closed", () -> h.panes(0));
     }
 
+    private static void newPaneWithAnOldNumber() {
+        Panehouse h = new Panehouse();
+        h.window();
+        h.split(0, true, 5);
+        long plain = h.checksum(1);
+        Bytes.feed(h, 1, "x\n\n\n\n\n\n\n\n\n\u0007~[5n~[4m~[2;3H~7~[2;4r~[4h~[?6h~[?7;25l~[?47hxy~[31");
+        h.close(1);
+        Due.is("split", h.split(0, true, 5), 1);
+        Due.is("plain", h.checksum(1), plain);
+        String all = "";
+        for (char what : "rcwmtbaiovskpy".toCharArray()) {
+            all += h.state(1, what);
+        }
+        Due.is("state", all, "00000700011000");
+        Due.noSuchElement("no answers", () -> h.answer(1));
+        Bytes.feed(h, 1, "m~8");
+        Due.is("no sequence is begun, and nothing is saved", Bytes.row(h, 1, 0) + h.state(1, 'm'), "m.........0");
+        Due.is("cursor", Bytes.cursor(h, 1), "0,0");
+    }
+
     private static void choosing() {
         Panehouse h = new Panehouse();
         h.window();
@@ -253,6 +277,8 @@ public final class WindowsTest {
         Due.is("zoomed as before", h.place(0, 'w'), 20);
         h.choose(1);
         Due.is("another one ends a zoom", h.place(1, 'w'), 10);
+        Due.outOfBounds("its screen", () -> h.cell(0, 0, 9));
+        Due.is("sound", h.isSound(), true);
         Due.is("another one ends a zoom", h.zoom(0), true);
     }
 
