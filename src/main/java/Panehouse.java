@@ -1203,6 +1203,9 @@ public final class Panehouse {
 
     /** What makes screens of bytes. */
     private static final class Terminal {
+        /** A sign that the document does not name does nothing, so these are told, not those that leave waiting. */
+        private static final String ENDS_WAITING = "ABCDGHfdJKX@PLMSTru";
+
         int width;
         int height;
         final Rows firstRows = new Rows(HIGHEST);
@@ -1472,7 +1475,7 @@ public final class Panehouse {
                 }
                 return;
             }
-            if (!leavesWaiting(sign)) {
+            if (ENDS_WAITING.indexOf((char) sign) >= 0) {
                 cursor().waits = false;
             }
             switch (sign) {
@@ -1507,11 +1510,6 @@ public final class Panehouse {
                     change(sign, sequence.atLeastOne(0));
                     break;
             }
-        }
-
-        /** All signs but these end waiting, also those that do nothing else. */
-        private static boolean leavesWaiting(int sign) {
-            return sign == 'm' || sign == 's' || sign == 'n' || sign == 'h' || sign == 'l';
         }
 
         private void move(int sign, int n) {

@@ -293,6 +293,9 @@ final class Model {
             }
             int first = numbers.isEmpty() ? 0 : numbers.get(0);
             int second = numbers.size() < 2 ? 0 : numbers.get(1);
+            if ("ABCDGHfdJKX@PLMSTrmsunhl".indexOf(end) < 0) {
+                return;
+            }
             if ("msnhl".indexOf(end) < 0) {
                 s().waits = false;
             }

@@ -5,7 +5,7 @@ import java.util.concurrent.Callable;
 public final class RandomRunsTest {
     private static final int RUNS = 300;
     private static final int CALLS = 400;
-    private static final String ENDS = "ABCDGHfdJKX@PLMSTrmsunhlABCDHJKrmZ";
+    private static final String ENDS = "ABCDGHfdJKX@PLMSTrmsunhlABCDHJKrmZ[\\`ekz{~";
     private static final String[] WHOLE = {
         "\u001b[?47h", "\u001b[?47l", "\u001b[?6h", "\u001b[?6l", "\u001b[?7l", "\u001b[?7h", "\u001b[?25l",
         "\u001b[?25h", "\u001b[4h", "\u001b[4l", "\u001b7", "\u001b8", "\u001bD", "\u001bM", "\u001bc", "\u001b[6n",

@@ -22,6 +22,7 @@ public final class ScreenTest {
         modes();
         secondScreen();
         waiting();
+        otherSigns();
         wrongInputs();
         Due.end();
     }
@@ -507,13 +508,53 @@ public final class ScreenTest {
         Due.is("u restores", Bytes.cursor(h, 0), "0,0");
         Bytes.feed(h, 0, "~[1;4Hx~[?5A~[1:A~[1;2;3;4;5A");
         Due.is("what does nothing", Bytes.cursor(h, 0), "0,3w");
-        for (String end : new String[] {"z", "3J", "9K", "5;2r"}) {
+        for (String end : new String[] {"3J", "9K", "5;2r"}) {
             Bytes.feed(h, 0, "~[1;4Hx~[" + end);
             Due.is("waits no more behind " + end, Bytes.cursor(h, 0), "0,3");
         }
         Bytes.feed(h, 0, "x");
         Bytes.feed(h, 0, "~[?6h");
         Due.is("origin goes", Bytes.cursor(h, 0), "0,0");
+    }
+
+    /** All signs from 64 to 126 that the document does not name; '[' is one of them behind '['. */
+    private static void otherSigns() {
+        String named = "ABCDGHfdJKX@PLMSTrmsunhl";
+        for (char end = 64; end <= 126; end++) {
+            if (named.indexOf(end) >= 0) {
+                continue;
+            }
+            for (String numbers : new String[] {"", "0", "7", "2;3", "4", "?25", "?47"}) {
+                leavesAll(numbers, end);
+            }
+        }
+    }
+
+    private static void leavesAll(String numbers, char end) {
+        String what = "27 [ " + numbers + " " + end;
+        Panehouse h = Bytes.house(4, 3);
+        Bytes.feed(h, 0, "~[31m~[sabcdefgh");
+        long before = h.checksum(0);
+        String states = states(h);
+        h.feedMore(0, 2, 27, '[', 0, 0, 0, 0, 0, 0);
+        Bytes.feed(h, 0, numbers);
+        Due.is(what + " has no answer", h.feed(0, end), 0);
+        Due.is(what + " leaves the cursor", Bytes.cursor(h, 0), "1,3w");
+        Due.is(what + " leaves the screens", h.checksum(0), before);
+        Due.is(what + " leaves the state", states(h), states);
+        Bytes.feed(h, 0, "=");
+        is("waiting was left by " + what, h, "abcd/efgh/=...", "2,1");
+        Due.is("the row goes on behind " + what, Bytes.onward(h, 0), "110");
+        Bytes.feed(h, 0, "~[u");
+        Due.is(what + " leaves what is saved", Bytes.cursor(h, 0), "0,0");
+    }
+
+    private static String states(Panehouse h) {
+        StringBuilder all = new StringBuilder();
+        for (char what : "rcwmtbaiovskpy".toCharArray()) {
+            all.append(h.state(0, what)).append(' ');
+        }
+        return all.toString();
     }
 
     private static void wrongInputs() {
