@@ -46,4 +46,25 @@ final class Edge {
         Panehouse house = fed(columns, rows, bytes);
         Due.is(sentence + " <" + bytes + ">", house.state(0, 't') + "-" + house.state(0, 'b'), region);
     }
+
+    /** Each pane of a window in order: its number, row, column, height and width. */
+    static String places(Panehouse house, int window) {
+        StringBuilder text = new StringBuilder();
+        for (int i = 0; i < house.panes(window); i++) {
+            int pane = house.paneAt(window, i);
+            text.append(i == 0 ? "" : " ").append(pane).append(':').append(house.place(pane, 'r')).append(',');
+            text.append(house.place(pane, 'c')).append(',').append(house.place(pane, 'h')).append(',');
+            text.append(house.place(pane, 'w'));
+        }
+        return text.toString();
+    }
+
+    /** All rows that a client's terminal shows. */
+    static String shown(Panehouse house, int client, int rows, int columns) {
+        StringBuilder text = new StringBuilder();
+        for (int row = 0; row < rows; row++) {
+            text.append(row == 0 ? "" : "/").append(Bytes.shown(house, client, row, columns));
+        }
+        return text.toString();
+    }
 }

@@ -165,6 +165,9 @@ public final class ByteEdgesTest {
         Edge.screen("'c', inserting, origin and wrapping", 4, 3, "~[2;3r~[4h~[?6h~[?7l~cabcd\b\bxyzw", "axyz/w.../....",
                 "1,1");
         Edge.state("'c', the cursor is shown", 4, 2, "~[?25l~c", 's', 1);
+        Edge.screen("'c' with one row", 4, 1, "abcd~[?47hef~c", "....", "0,0");
+        Edge.state("'c', the mark", 4, 2, "~[1;31m~c", 'm', 0);
+        Edge.cursor("'c', origin", 4, 3, "~[?6h~c~[2;3r", "0,0");
         Edge.state("'c', the mark of the saved place", 4, 2, "~[31m~7~c~8", 'm', 0);
         Edge.cursor("'c', the saved place", 4, 2, "abcd~7~c~8", "0,0");
     }
@@ -299,6 +302,9 @@ public final class ByteEdgesTest {
         Edge.onward("as cells of it move", 4, 2, "abcde~[1;1H~[4hx", "00");
         Panehouse h = Edge.fed(4, 1, "a~[31mbc~[m\r~[4hx");
         Due.is("cells move with their marks", h.mark(0, 0, 1) * 100 + h.mark(0, 0, 2) * 10 + h.mark(0, 0, 3), 88);
+        Panehouse wider = Edge.fed(6, 2, "~[?47habcdef~[1;3H~[4hx");
+        wider.resize(0, 10, 3);
+        Due.is("the last one is lost for ever", Bytes.row(wider, 0, 0), "abxcde....");
         Edge.screen("cells beyond a width stay plain", 4, 1, "abcd\r~[4hxyzw~[4l~[2G~[2P", "xw..", "0,1");
     }
 

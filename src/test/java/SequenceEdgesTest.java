@@ -19,6 +19,7 @@ public final class SequenceEdgesTest {
         plainCells();
         cellsIn();
         cellsAway();
+        othersThanNamed();
         rowsIn();
         rowsAway();
         scrolling();
@@ -195,6 +196,10 @@ public final class SequenceEdgesTest {
         Panehouse h = Edge.fed(4, 1, "~[31mab~[1G~[@");
         Due.is("they are plain, the others have their marks", h.mark(0, 0, 0) * 100 + h.mark(0, 0, 1), 8);
         Edge.screen("what is lost does not come again", 4, 1, "abcd~[1G~[2@~[2P", "ab..", "0,0");
+        Panehouse wider = Edge.fed(6, 2, "~[?47habcdef~[1;3H~[2@");
+        wider.resize(0, 10, 3);
+        Due.is("what is lost does not come again", Bytes.row(wider, 0, 0), "ab..cd....");
+        Edge.screen("more than there are, at the widest", 60, 1, "abc~[58Gxyz~[3G~[999@", "ab" + ".".repeat(58), "0,2");
     }
 
     private static void cellsAway() {
@@ -207,6 +212,26 @@ public final class SequenceEdgesTest {
         four("more than there are", "~[2;3H~[999P", "abcd/ef../ijkl/mnop", "1,2");
         four("at the last column", "~[2;4H~[P", "abcd/efg./ijkl/mnop", "1,3");
         Edge.screen("at the widest", 60, 1, "a~[59Gyz~[1G~[P", "." + ".".repeat(56) + "yz.", "0,0");
+        Edge.screen("at the widest", 60, 1, "ab~[59Gyz~[2G~[P", "a" + ".".repeat(56) + "yz.", "0,1");
+    }
+
+    /** No sign does what another one does, whatever its numbers mean to that. */
+    private static void othersThanNamed() {
+        for (char end : "ABCDGHfdJKX@PLMSTrmsunhl".toCharArray()) {
+            for (String numbers : new String[] {"4", "5", "6", "4;6", "4;5", "6;4", "4;7", "2;3"}) {
+                Panehouse h = Edge.fed(10, 8, "~[2;7r~[4;4H");
+                int answered = Bytes.feed(h, 0, "~[" + numbers + end);
+                char first = numbers.charAt(0);
+                Due.is("n alone answers, " + numbers + end, answered > 0, end == 'n' && (first == '5' || first == '6'));
+                Due.is("h alone turns on, " + numbers + end, h.state(0, 'i') == 1, end == 'h' && numbers.indexOf('4') >= 0);
+                Due.is("m alone is of the mark, " + numbers + end, h.state(0, 'm') > 0,
+                        end == 'm' && (numbers.indexOf('4') >= 0 || numbers.indexOf('7') >= 0));
+                boolean isSame = h.state(0, 't') == 1 && h.state(0, 'b') == 6;
+                Due.is("r alone is of the region, " + numbers + end, isSame, end != 'r' || "6;4".equals(numbers));
+                Panehouse on = Edge.fed(10, 8, "~[4h~[" + numbers + end);
+                Due.is("l alone turns off, " + numbers + end, on.state(0, 'i') == 0, end == 'l' && numbers.indexOf('4') >= 0);
+            }
+        }
     }
 
     private static void rowsIn() {

@@ -84,6 +84,10 @@ public final class SizeEdgesTest {
                 "abcd..../efgh..../ij......", "000", "2,2");
         is("those that scrolled away, too", resized(4, 1, "abcdefghij", 12, 1), "", "abcdefghij..", "0", "0,10");
         is("all but its last one go on", resized(12, 1, "abcdefghij\r", 4, 3), "", "abcd/efgh/ij..", "110", "0,0");
+        Panehouse parted = resized(8, 2, "abcdefgh", 4, 3);
+        Bytes.feed(parted, 0, "~[1;4Hx");
+        parted.resize(0, 8, 3);
+        is("one that does not go on any more is not", parted, "", "abcx..../efgh....", "00", "0,3");
         Panehouse h = resized(8, 2, "~[31mabcd~[1mefgh~[mij", 4, 3);
         Due.is("cells go with their marks", h.mark(0, 0, 3) * 100 + h.mark(0, 1, 0) * 10 + h.mark(0, 2, 0), 890);
     }

@@ -21,6 +21,7 @@ public final class WindowEdgesTest {
         closing();
         closingActive();
         closingWindows();
+        numbersAgain();
         swapping();
         swappingActive();
         endsOfZooms();
@@ -28,18 +29,6 @@ public final class WindowEdgesTest {
         atOnce();
         placesWhileZoomed();
         Due.end();
-    }
-
-    /** Each pane in order: its number, row, column, height and width. */
-    static String places(Panehouse h, int window) {
-        StringBuilder text = new StringBuilder();
-        for (int i = 0; i < h.panes(window); i++) {
-            int pane = h.paneAt(window, i);
-            text.append(i == 0 ? "" : " ").append(pane).append(':').append(h.place(pane, 'r')).append(',');
-            text.append(h.place(pane, 'c')).append(',').append(h.place(pane, 'h')).append(',');
-            text.append(h.place(pane, 'w'));
-        }
-        return text.toString();
     }
 
     private static void numbersOfWindows() {
@@ -103,9 +92,9 @@ public final class WindowEdgesTest {
     private static void needsOfOnePane() {
         Panehouse h = new Panehouse();
         h.window();
-        Due.is("20 and 8 at first", places(h, 0), "0:0,0,8,20");
+        Due.is("20 and 8 at first", Edge.places(h, 0), "0:0,0,8,20");
         h.attach(4, 2);
-        Due.is("the least client", places(h, 0), "0:0,0,1,4");
+        Due.is("the least client", Edge.places(h, 0), "0:0,0,1,4");
     }
 
     private static void needsBeside() {
@@ -115,7 +104,7 @@ public final class WindowEdgesTest {
             Due.is("the columns of both and 1", h.size(0, true), 3 * i + 2);
             Due.is("the greater number of rows", h.size(0, false), 1);
         }
-        Due.is("2 columns each", places(h, 0), "0:0,0,1,2 1:0,3,1,2 2:0,6,1,2 3:0,9,1,2 4:0,12,1,2 5:0,15,1,2"
+        Due.is("2 columns each", Edge.places(h, 0), "0:0,0,1,2 1:0,3,1,2 2:0,6,1,2 3:0,9,1,2 4:0,12,1,2 5:0,15,1,2"
                 + " 6:0,18,1,2 7:0,21,1,2");
         h.resize(0, 23, 2);
         Due.is("just as many as it needs", h.size(0, true), 23);
@@ -132,7 +121,7 @@ public final class WindowEdgesTest {
             Due.is("the rows of both and 1", h.size(0, false), 2 * i + 1);
             Due.is("the greater number of columns", h.size(0, true), 4);
         }
-        Due.is("1 row each", places(h, 0), "0:0,0,1,4 7:2,0,1,4 6:4,0,1,4 5:6,0,1,4 4:8,0,1,4 3:10,0,1,4"
+        Due.is("1 row each", Edge.places(h, 0), "0:0,0,1,4 7:2,0,1,4 6:4,0,1,4 5:6,0,1,4 4:8,0,1,4 3:10,0,1,4"
                 + " 2:12,0,1,4 1:14,0,1,4");
         h.resize(0, 4, 16);
         Due.is("just as many as it needs", h.size(0, false), 15);
@@ -159,7 +148,7 @@ public final class WindowEdgesTest {
             for (int share = 1; share <= 9; share++) {
                 h.share(0, share);
                 int wide = due[i][share - 1];
-                Due.is("the share, cut, at least what it needs, at most what the other one does not need", places(h, 0),
+                Due.is("the share, cut, at least what it needs, at most what the other one does not need", Edge.places(h, 0),
                         "0:0,0,1," + wide + " 1:0," + (wide + 1) + ",1," + (sizes[i] - 1 - wide));
             }
         }
@@ -175,7 +164,7 @@ public final class WindowEdgesTest {
             for (int share = 1; share <= 9; share++) {
                 h.share(1, share);
                 int high = due[i][share - 1];
-                Due.is("over each other likewise with rows", places(h, 0),
+                Due.is("over each other likewise with rows", Edge.places(h, 0),
                         "0:0,0," + high + ",4 1:" + (high + 1) + ",0," + (sizes[i] - 1 - high) + ",4");
             }
         }
@@ -185,19 +174,19 @@ public final class WindowEdgesTest {
         Panehouse h = Bytes.house(20, 8);
         h.split(0, true, 9);
         h.split(1, true, 5);
-        Due.is("at most what the other one does not need", places(h, 0), "0:0,0,8,14 1:0,15,8,2 2:0,18,8,2");
+        Due.is("at most what the other one does not need", Edge.places(h, 0), "0:0,0,8,14 1:0,15,8,2 2:0,18,8,2");
         h.swap(0, 1);
         h.share(1, 1);
         h.close(2);
         h.split(1, true, 5);
-        Due.is("at least what it needs", places(h, 0), "1:0,0,8,2 2:0,3,8,2 0:0,6,8,14");
+        Due.is("at least what it needs", Edge.places(h, 0), "1:0,0,8,2 2:0,3,8,2 0:0,6,8,14");
         Panehouse over = Bytes.house(20, 8);
         over.split(0, false, 9);
         over.split(1, false, 5);
         over.split(2, false, 5);
-        Due.is("over each other", places(over, 0), "0:0,0,2,20 1:3,0,1,20 2:5,0,1,20 3:7,0,1,20");
+        Due.is("over each other", Edge.places(over, 0), "0:0,0,2,20 1:3,0,1,20 2:5,0,1,20 3:7,0,1,20");
         over.share(0, 1);
-        Due.is("over each other", places(over, 0), "0:0,0,1,20 1:2,0,2,20 2:5,0,1,20 3:7,0,1,20");
+        Due.is("over each other", Edge.places(over, 0), "0:0,0,1,20 1:2,0,2,20 2:5,0,1,20 3:7,0,1,20");
     }
 
     private static void shareOfAPane() {
@@ -227,22 +216,22 @@ public final class WindowEdgesTest {
         h.attach(10, 24);
         Due.is("the rows less 1", h.size(0, false), 23);
         h.attach(60, 6);
-        Due.is("the least of the columns, and of the rows", places(h, 0), "0:0,0,5,10");
+        Due.is("the least of the columns, and of the rows", Edge.places(h, 0), "0:0,0,5,10");
         h.attach(10, 6);
-        Due.is("the same", places(h, 0), "0:0,0,5,10");
+        Due.is("the same", Edge.places(h, 0), "0:0,0,5,10");
         h.attach(9, 7);
-        Due.is("the least of the columns", places(h, 0), "0:0,0,5,9");
+        Due.is("the least of the columns", Edge.places(h, 0), "0:0,0,5,9");
         h.resize(3, 4, 2);
-        Due.is("the least of all", places(h, 0), "0:0,0,1,4");
+        Due.is("the least of all", Edge.places(h, 0), "0:0,0,1,4");
         h.detach(3);
         h.detach(1);
         h.detach(2);
-        Due.is("the one that is left", places(h, 0), "0:0,0,23,10");
+        Due.is("the one that is left", Edge.places(h, 0), "0:0,0,23,10");
         h.window();
-        Due.is("20 and 8 at first, if none looks", places(h, 1), "1:0,0,8,20");
+        Due.is("20 and 8 at first, if none looks", Edge.places(h, 1), "1:0,0,8,20");
         h.look(0, 1);
-        Due.is("of the clients that look at it", places(h, 1), "1:0,0,23,10");
-        Due.is("what it had, if none does", places(h, 0), "0:0,0,23,10");
+        Due.is("of the clients that look at it", Edge.places(h, 1), "1:0,0,23,10");
+        Due.is("what it had, if none does", Edge.places(h, 0), "0:0,0,23,10");
     }
 
     private static void whatItHad() {
@@ -262,7 +251,7 @@ public final class WindowEdgesTest {
         for (int pane = 1; pane < 5; pane++) {
             h.close(pane);
         }
-        Due.is("what it had, though it needs less", places(h, 0), "0:0,0,5,8");
+        Due.is("what it had, though it needs less", Edge.places(h, 0), "0:0,0,5,8");
     }
 
     private static void order() {
@@ -281,6 +270,11 @@ public final class WindowEdgesTest {
         Due.noSuchElement("from 0", () -> h.paneAt(0, -1));
         Due.noSuchElement("from 0", () -> h.paneAt(0, Integer.MIN_VALUE));
         Due.is("how many", h.panes(0), 4);
+        h.close(2);
+        Due.noSuchElement("it has not so many any more", () -> h.paneAt(0, 3));
+        h.close(1);
+        Due.is("the last one", h.paneAt(0, 1), 3);
+        Due.noSuchElement("it has not so many any more", () -> h.paneAt(0, 2));
     }
 
     private static void splitting() {
@@ -290,12 +284,12 @@ public final class WindowEdgesTest {
         h.choose(0);
         Due.is("also one that is not active", h.split(1, false, 9), 2);
         Due.is("the new one is active then", h.active(0), 2);
-        Due.is("itself first, a new one behind", places(h, 0), "0:0,0,8,2 1:0,3,6,17 2:7,3,1,17");
+        Due.is("itself first, a new one behind", Edge.places(h, 0), "0:0,0,8,2 1:0,3,6,17 2:7,3,1,17");
         Panehouse deep = Bytes.house(4, 1);
         for (int i = 0; i < 7; i++) {
             deep.split(i, i % 2 == 0, 5);
         }
-        Due.is("seven parts in each other", places(deep, 0), "0:0,0,7,2 1:0,3,1,11 2:2,3,5,2 3:2,6,1,8 4:4,6,3,2"
+        Due.is("seven parts in each other", Edge.places(deep, 0), "0:0,0,7,2 1:0,3,1,11 2:2,3,5,2 3:2,6,1,8 4:4,6,3,2"
                 + " 5:4,9,1,5 6:6,9,1,2 7:6,12,1,2");
         Due.is("sound", deep.isSound(), true);
     }
@@ -311,11 +305,11 @@ public final class WindowEdgesTest {
         h.split(1, true, 5);
         h.split(0, true, 5);
         h.split(0, true, 5);
-        Due.is("places", places(h, 1), "1:0,0,8,9 0:0,10,8,2 3:0,13,8,2 2:0,16,8,4");
+        Due.is("places", Edge.places(h, 1), "1:0,0,8,9 0:0,10,8,2 3:0,13,8,2 2:0,16,8,4");
         h.close(3);
-        Due.is("the other part takes its place", places(h, 1), "1:0,0,8,9 0:0,10,8,4 2:0,15,8,5");
+        Due.is("the other part takes its place", Edge.places(h, 1), "1:0,0,8,9 0:0,10,8,4 2:0,15,8,5");
         h.close(1);
-        Due.is("a part of two, too", places(h, 1), "0:0,0,8,9 2:0,10,8,10");
+        Due.is("a part of two, too", Edge.places(h, 1), "0:0,0,8,9 2:0,10,8,10");
     }
 
     private static void closingActive() {
@@ -367,10 +361,37 @@ public final class WindowEdgesTest {
         Due.outOfBounds("no such window", () -> h.size(1, true));
         Due.is("clients that looked at it look at the least", h.looksAt(0), 0);
         Due.is("those that did not do not", h.looksAt(1), 2);
-        Due.is("its size is that of its clients at once", places(h, 0), "0:0,0,4,10");
+        Due.is("its size is that of its clients at once", Edge.places(h, 0), "0:0,0,4,10");
         h.close(0);
         Due.is("the least one is another one then", h.looksAt(0) * 100 + h.looksAt(1) * 10 + h.looksAt(2), 222);
-        Due.is("its size is that of its clients at once", places(h, 2), "2:0,0,4,10");
+        Due.is("its size is that of its clients at once", Edge.places(h, 2), "2:0,0,4,10");
+    }
+
+    /** A pane or window with a number that was free again is as any new one. */
+    private static void numbersAgain() {
+        Panehouse h = new Panehouse();
+        h.window();
+        h.window();
+        long plain = h.checksum(1);
+        h.attach(60, 24);
+        h.look(0, 1);
+        Bytes.feed(h, 1, "a\n~[24S~[5n\u0007~[31;4m~[9;9H~7~[?47hxyz~[99;99H~[2;9r~[?6h~[4h~[?7;25l~[");
+        h.key(0, 'k');
+        h.zoom(1);
+        h.close(1);
+        Due.is("the same number", h.window(), 1);
+        Due.is("20 and 8 at first", Edge.places(h, 1), "1:0,0,8,20");
+        Due.is("all cells are plain, none scrolled away, the cursor at 0 and 0", h.checksum(1), plain);
+        StringBuilder all = new StringBuilder();
+        for (char what : "rcwmtbaiovskpy".toCharArray()) {
+            all.append(h.state(1, what));
+        }
+        Due.is("region, mark, modes, bells, typed bytes", all.toString(), "00000700011000");
+        Due.noSuchElement("no answers", () -> h.answer(1));
+        Due.is("it is sound", h.isSound(), true);
+        Due.is("it is not zoomed", h.zoom(1), true);
+        Bytes.feed(h, 1, "C~8");
+        Due.is("no sequence is begun, nothing is saved", Bytes.cursor(h, 1) + h.cell(1, 0, 0) + h.state(1, 'm'), "0,0C0");
     }
 
     private static void swapping() {
@@ -389,6 +410,7 @@ public final class WindowEdgesTest {
         Due.outOfBounds("no such pane, both the same", () -> h.swap(8, 8));
         Due.outOfBounds("no such pane, the first one", () -> h.swap(8, 0));
         Due.outOfBounds("no such pane, the other one", () -> h.swap(0, -1));
+        Due.is("how many between, in their order", h.swap(2, 0), 3);
         Panehouse two = new Panehouse();
         two.window();
         two.window();
@@ -396,7 +418,7 @@ public final class WindowEdgesTest {
         Due.is("also of two windows", two.paneAt(0, 0) * 10 + two.paneAt(1, 0), 10);
         two.attach(10, 5);
         two.swap(0, 1);
-        Due.is("each has the other's size", places(two, 0) + " " + places(two, 1), "0:0,0,4,10 1:0,0,8,20");
+        Due.is("each has the other's size", Edge.places(two, 0) + " " + Edge.places(two, 1), "0:0,0,4,10 1:0,0,8,20");
     }
 
     private static void swappingActive() {
@@ -475,15 +497,15 @@ public final class WindowEdgesTest {
         h.split(0, true, 5);
         h.split(0, false, 5);
         h.zoom(0);
-        Due.is("the active one has its whole size, the others theirs", places(h, 0), "0:0,0,3,9 2:0,0,8,20 1:0,10,8,10");
+        Due.is("the active one has its whole size, the others theirs", Edge.places(h, 0), "0:0,0,3,9 2:0,0,8,20 1:0,10,8,10");
         Due.outOfBounds("no row behind it", () -> h.cell(2, 8, 0));
         Due.is("its last cell", h.cell(2, 7, 19), ' ');
         h.attach(6, 4);
-        Due.is("of the client's size", places(h, 0), "0:0,0,1,2 2:0,0,3,6 1:0,3,3,3");
+        Due.is("of the client's size", Edge.places(h, 0), "0:0,0,1,2 2:0,0,3,6 1:0,3,3,3");
         h.resize(0, 4, 2);
-        Due.is("of what the window needs", places(h, 0), "0:0,0,1,2 2:0,0,3,5 1:0,3,3,2");
+        Due.is("of what the window needs", Edge.places(h, 0), "0:0,0,1,2 2:0,0,3,5 1:0,3,3,2");
         Due.is("not zoomed any more", h.zoom(0), false);
-        Due.is("its own size", places(h, 0), "0:0,0,1,2 2:2,0,1,2 1:0,3,3,2");
+        Due.is("its own size", Edge.places(h, 0), "0:0,0,1,2 2:2,0,1,2 1:0,3,3,2");
     }
 
     private static void cellsFit(String call, Panehouse h) {
@@ -546,6 +568,15 @@ public final class WindowEdgesTest {
         Due.is("the zoomed one", "" + h.place(1, 'r') + h.place(1, 'c') + h.place(1, 'h') + h.place(1, 'w'), "00820");
         h.zoom(0);
         Due.is("not zoomed", "" + h.place(1, 'r') + h.place(1, 'c') + h.place(1, 'h') + h.place(1, 'w'), "40420");
+        h.choose(0);
+        h.zoom(0);
+        Due.is("the other one is behind", "" + h.place(1, 'r') + h.place(1, 'c') + h.place(1, 'h') + h.place(1, 'w'), "40420");
+        Due.is("it has its own size", Bytes.cursor(h, 1) + h.state(1, 'b'), "0,03");
+        h.zoom(0);
+        h.split(0, true, 5);
+        h.choose(1);
+        h.zoom(0);
+        Due.is("those beside it have their columns", "" + h.place(2, 'c') + h.place(2, 'w') + h.place(1, 'c'), "10100");
         for (int letter = 0; letter < 300; letter++) {
             char what = (char) letter;
             if ("rchw".indexOf(what) < 0) {
