@@ -69,7 +69,8 @@ public final class ByteEdgesTest {
                 Due.is("7 is counted as a bell, not " + sign, h.state(0, 'k'), sign == 7 ? 1 : 0);
             }
         }
-        Edge.screen("others do nothing, so that it wraps then", 4, 2, "abcd\u0007\u0000\u007f\u00ffe", "abcd/e...", "1,1");
+        Edge.screen("others do nothing, so that it wraps then", 4, 2, "abcd\u0007\u0000\u007f\u00ffe", "abcd/e...",
+                "1,1");
     }
 
     private static void back() {
@@ -273,7 +274,8 @@ public final class ByteEdgesTest {
         Edge.screen("in the last row below the region", 4, 3, "~[1;2r~[3;1Habcde", "..../..../ebcd", "2,1");
         Edge.onward("in the last row below the region", 4, 3, "~[1;2r~[3;1Habcde", "001");
         Edge.onward("so long as its last cell is not written", 4, 3, "~[1;2r~[3;1Habcdefgh", "000");
-        Edge.screen("at the bottom of a region whose top is not row 0", 4, 3, "~[2;3r~[3;1Habcde", "..../abcd/e...", "2,1");
+        Edge.screen("at the bottom of a region whose top is not row 0", 4, 3, "~[2;3r~[3;1Habcde", "..../abcd/e...",
+                "2,1");
         Edge.onward("at the bottom of a region whose top is not row 0", 4, 3, "~[2;3r~[3;1Habcde", "010");
         Edge.kept("at the bottom of a region whose top is not row 0", 4, 3, "~[2;3r~[3;1Habcde", "");
         Edge.onward("of the second screen it is not kept, nor does it go on", 4, 2, "~[?47habcdefghi", "00");

@@ -152,7 +152,8 @@ public final class ClientEdgesTest {
             h.window();
             h.look(0, 1);
             h.redraw(0);
-            Due.is("its number and '*', or a blank, as far as they go, and blanks", Bytes.shown(h, 0, 1, 4 + i), due[i]);
+            Due.is("its number and '*', or a blank, as far as they go, and blanks", Bytes.shown(h, 0, 1, 4 + i),
+                    due[i]);
             for (int column = 0; column < 4 + i; column++) {
                 Due.is("all turned", h.shownMark(0, 1, column), 4);
             }

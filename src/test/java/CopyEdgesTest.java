@@ -248,8 +248,8 @@ public final class CopyEdgesTest {
 
     private static void sumsThatGoRound() {
         Panehouse h = Edge.fed(4, 2, "~[31mabcdefghijkl~[m~[?47h~[2;1H~[7mwxyz");
-        int[] parts = {1, 1, 'a', 8, 'b', 8, 'c', 8, 'd', 8, 1, 'e', 8, 'f', 8, 'g', 8, 'h', 8, 0, 'i', 8, 'j', 8, 'k', 8,
-            'l', 8, 0, 32, 0, 32, 0, 32, 0, 32, 0, 0, 'w', 4, 'x', 4, 'y', 4, 'z', 4, 1, 3, 1};
+        int[] parts = {1, 1, 'a', 8, 'b', 8, 'c', 8, 'd', 8, 1, 'e', 8, 'f', 8, 'g', 8, 'h', 8, 0, 'i', 8, 'j', 8, 'k',
+            8, 'l', 8, 0, 32, 0, 32, 0, 32, 0, 32, 0, 0, 'w', 4, 'x', 4, 'y', 4, 'z', 4, 1, 3, 1};
         Due.is("how many rows are kept, then these, the first screen, the second one, the cursor in use", h.checksum(0),
                 goneRound(parts));
         Bytes.feed(h, 0, "~[?47l");
@@ -294,7 +294,8 @@ public final class CopyEdgesTest {
         h.redraw(0);
         Due.is("all cells are sent, and the cursor waits", h.isSound(), true);
         for (int i = 0; i < 30; i++) {
-            Bytes.feed(h, 0, "~[" + (i % 23 + 1) + ";" + (2 * i + 1) + "H~[3" + i % 8 + ";" + i % 5 + "m" + (char) ('a' + i % 26));
+            Bytes.feed(h, 0, "~[" + (i % 23 + 1) + ";" + (2 * i + 1) + "H~[3" + i % 8 + ";"
+                    + i % 5 + "m" + (char) ('a' + i % 26));
         }
         h.redraw(0);
         Due.is("cells here and there are sent", h.isSound(), true);

@@ -290,10 +290,13 @@ public final class RefusedCallsTest {
         }
         Bytes.feed(full, 0, "x".repeat(60 * 7));
         unchanged("copy of more than 400", full, IllegalStateException.class, () -> full.copy(0, 0, 0, 6, 59));
-        unchanged("copy, ahead, of more than 400", full, IllegalArgumentException.class, () -> full.copy(0, 6, 59, 0, 0));
-        unchanged("copy, no such column, ahead", full, IndexOutOfBoundsException.class, () -> full.copy(0, 6, 60, 0, 0));
+        unchanged("copy, ahead, of more than 400", full, IllegalArgumentException.class,
+                () -> full.copy(0, 6, 59, 0, 0));
+        unchanged("copy, no such column, ahead", full, IndexOutOfBoundsException.class,
+                () -> full.copy(0, 6, 60, 0, 0));
         unchanged("share of the only pane", full, UnsupportedOperationException.class, () -> full.share(0, 5));
-        unchanged("share of the only pane, and out of range", full, IllegalArgumentException.class, () -> full.share(0, 0));
+        unchanged("share of the only pane, and out of range", full, IllegalArgumentException.class,
+                () -> full.share(0, 0));
         unchanged("close of the only pane", full, IllegalStateException.class, () -> full.close(0));
         unchanged("close of no pane", full, IndexOutOfBoundsException.class, () -> full.close(1));
         unchanged("a fifth client", full, IllegalStateException.class, () -> full.attach(60, 24));
@@ -307,7 +310,8 @@ public final class RefusedCallsTest {
         full.zoom(0);
         unchanged("a window with 8 panes", full, IllegalStateException.class, full::window);
         unchanged("split with 8 panes", full, IllegalStateException.class, () -> full.split(3, true, 5));
-        unchanged("split with 8 panes, and out of range", full, IllegalArgumentException.class, () -> full.split(3, true, 0));
+        unchanged("split with 8 panes, and out of range", full, IllegalArgumentException.class,
+                () -> full.split(3, true, 0));
         unchanged("split with 8 panes, of none", full, IndexOutOfBoundsException.class, () -> full.split(8, true, 5));
         for (int i = 1; i < 8; i++) {
             full.close(i);

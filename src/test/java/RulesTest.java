@@ -112,7 +112,8 @@ public final class RulesTest {
     private static void words() throws IOException {
         String source = Files.readString(SOURCE);
         String[] forbidden = {"->", "::", "\\bcatch\\b", "\\btry\\b", "\\bfinally\\b", "\\bsynchronized\\b",
-            "\\bassert\\b", "Exact\\(", "\\bpackage\\b", "\\bString\\.format", "\\bnew Random", "\\bSystem\\.(?!arraycopy)",
+            "\\bassert\\b", "Exact\\(", "\\bpackage\\b", "\\bString\\.format", "\\bnew Random",
+            "\\bSystem\\.(?!arraycopy)",
             "\\bhashCode\\b", "\\btoString\\(\\) \\{", "\\bequals\\(Object", "\\bprotected\\b", "[^\\x00-\\x7f]"};
         for (String word : forbidden) {
             Matcher found = Pattern.compile(word).matcher(source);

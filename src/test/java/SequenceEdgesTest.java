@@ -223,13 +223,15 @@ public final class SequenceEdgesTest {
                 int answered = Bytes.feed(h, 0, "~[" + numbers + end);
                 char first = numbers.charAt(0);
                 Due.is("n alone answers, " + numbers + end, answered > 0, end == 'n' && (first == '5' || first == '6'));
-                Due.is("h alone turns on, " + numbers + end, h.state(0, 'i') == 1, end == 'h' && numbers.indexOf('4') >= 0);
+                Due.is("h alone turns on, " + numbers + end, h.state(0, 'i') == 1,
+                        end == 'h' && numbers.indexOf('4') >= 0);
                 Due.is("m alone is of the mark, " + numbers + end, h.state(0, 'm') > 0,
                         end == 'm' && (numbers.indexOf('4') >= 0 || numbers.indexOf('7') >= 0));
                 boolean isSame = h.state(0, 't') == 1 && h.state(0, 'b') == 6;
                 Due.is("r alone is of the region, " + numbers + end, isSame, end != 'r' || "6;4".equals(numbers));
                 Panehouse on = Edge.fed(10, 8, "~[4h~[" + numbers + end);
-                Due.is("l alone turns off, " + numbers + end, on.state(0, 'i') == 0, end == 'l' && numbers.indexOf('4') >= 0);
+                Due.is("l alone turns off, " + numbers + end, on.state(0, 'i') == 0,
+                        end == 'l' && numbers.indexOf('4') >= 0);
             }
         }
     }

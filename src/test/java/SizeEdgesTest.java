@@ -105,7 +105,8 @@ public final class SizeEdgesTest {
 
     private static void lastCells() {
         is("all cells of its rows", resized(4, 2, "abc ef", 8, 2), "", "abc.ef../........", "00", "0,6");
-        is("all cells of its rows", resized(4, 2, "abcdef~[1;1H~[3X~[2;3H", 8, 2), "", "...def../........", "00", "0,6");
+        is("all cells of its rows", resized(4, 2, "abcdef~[1;1H~[3X~[2;3H", 8, 2), "", "...def../........", "00",
+                "0,6");
         is("of its last one up to the last that is not plain", resized(8, 2, "ab      \r\nx", 4, 3), "",
                 "ab../x.../....", "000", "1,1");
         is("blanks with a mark are not plain", resized(8, 2, "ab~[7m      ~[m\r\nx", 4, 3), "", "ab../..../x...",
@@ -127,12 +128,14 @@ public final class SizeEdgesTest {
         is("the cursor stays at its place", resized(8, 3, "abcdefgh~[5G", 4, 3), "", "abcd/efgh/....", "100", "1,0");
         is("at its place in its line", resized(4, 3, "abcdefghij~[2;3H", 10, 3), "",
                 "abcdefghij/........../..........", "000", "0,6");
-        is("in a line without it nothing is added", resized(8, 2, "a\r\n~[5G", 4, 3), "", "a.../..../....", "010", "2,0");
+        is("in a line without it nothing is added", resized(8, 2, "a\r\n~[5G", 4, 3), "", "a.../..../....", "010",
+                "2,0");
     }
 
     private static void atLeastOneRow() {
         is("at least one", resized(8, 3, "\r\n\r\nx", 4, 4), "", "..../..../x.../....", "0000", "2,1");
-        is("at least one, that scrolled away", resized(4, 1, "\n\nx", 8, 2), "........", "......../x.......", "00", "1,1");
+        is("at least one, that scrolled away", resized(4, 1, "\n\nx", 8, 2), "........", "......../x.......", "00",
+                "1,1");
     }
 
     private static void room() {
@@ -152,8 +155,10 @@ public final class SizeEdgesTest {
 
     private static void fromTheCursorOn() {
         String rows = "a\r\nb\r\nc\r\nd";
-        is("none from the cursor's row on", resized(4, 4, rows + "~[4;1H", 4, 2), "a.../b...", "c.../d...", "00", "1,0");
-        is("none from the cursor's row on", resized(4, 4, rows + "~[3;1H", 4, 2), "a.../b...", "c.../d...", "00", "0,0");
+        is("none from the cursor's row on", resized(4, 4, rows + "~[4;1H", 4, 2), "a.../b...", "c.../d...", "00",
+                "1,0");
+        is("none from the cursor's row on", resized(4, 4, rows + "~[3;1H", 4, 2), "a.../b...", "c.../d...", "00",
+                "0,0");
         is("more are lost, one", resized(4, 4, rows + "~[2;1H", 4, 2), "a...", "b.../c...", "00", "0,0");
         is("more are lost, two", resized(4, 4, rows + "~[1;1H", 4, 2), "", "a.../b...", "00", "0,0");
         Panehouse h = resized(4, 4, rows + "~[1;1H", 4, 1);

@@ -148,8 +148,8 @@ public final class WindowEdgesTest {
             for (int share = 1; share <= 9; share++) {
                 h.share(0, share);
                 int wide = due[i][share - 1];
-                Due.is("the share, cut, at least what it needs, at most what the other one does not need", Edge.places(h, 0),
-                        "0:0,0,1," + wide + " 1:0," + (wide + 1) + ",1," + (sizes[i] - 1 - wide));
+                Due.is("the share, cut, at least what it needs, at most what the other one does not need",
+                        Edge.places(h, 0), "0:0,0,1," + wide + " 1:0," + (wide + 1) + ",1," + (sizes[i] - 1 - wide));
             }
         }
     }
@@ -375,7 +375,7 @@ public final class WindowEdgesTest {
         long plain = h.checksum(1);
         h.attach(60, 24);
         h.look(0, 1);
-        Bytes.feed(h, 1, "a\n~[24S~[5n\u0007~[31;4m~[9;9H~7~[?47hxyz~[99;99H~[2;9r~[?6h~[4h~[?7;25l~[");
+        Bytes.feed(h, 1, "a\n~[24S~[5n\u0007~[31;4m~[9;9H~7~[2;9r~[4h~[?7;25l~[?47hxyz~[?6h~[99;99H~[");
         h.key(0, 'k');
         h.zoom(1);
         h.close(1);
@@ -391,7 +391,8 @@ public final class WindowEdgesTest {
         Due.is("it is sound", h.isSound(), true);
         Due.is("it is not zoomed", h.zoom(1), true);
         Bytes.feed(h, 1, "C~8");
-        Due.is("no sequence is begun, nothing is saved", Bytes.cursor(h, 1) + h.cell(1, 0, 0) + h.state(1, 'm'), "0,0C0");
+        Due.is("no sequence is begun, nothing is saved", Bytes.cursor(h, 1) + h.cell(1, 0, 0) + h.state(1, 'm'),
+                "0,0C0");
     }
 
     private static void swapping() {
@@ -497,7 +498,8 @@ public final class WindowEdgesTest {
         h.split(0, true, 5);
         h.split(0, false, 5);
         h.zoom(0);
-        Due.is("the active one has its whole size, the others theirs", Edge.places(h, 0), "0:0,0,3,9 2:0,0,8,20 1:0,10,8,10");
+        Due.is("the active one has its whole size, the others theirs", Edge.places(h, 0),
+                "0:0,0,3,9 2:0,0,8,20 1:0,10,8,10");
         Due.outOfBounds("no row behind it", () -> h.cell(2, 8, 0));
         Due.is("its last cell", h.cell(2, 7, 19), ' ');
         h.attach(6, 4);
@@ -570,7 +572,8 @@ public final class WindowEdgesTest {
         Due.is("not zoomed", "" + h.place(1, 'r') + h.place(1, 'c') + h.place(1, 'h') + h.place(1, 'w'), "40420");
         h.choose(0);
         h.zoom(0);
-        Due.is("the other one is behind", "" + h.place(1, 'r') + h.place(1, 'c') + h.place(1, 'h') + h.place(1, 'w'), "40420");
+        Due.is("the other one is behind", "" + h.place(1, 'r') + h.place(1, 'c') + h.place(1, 'h') + h.place(1, 'w'),
+                "40420");
         Due.is("it has its own size", Bytes.cursor(h, 1) + h.state(1, 'b'), "0,03");
         h.zoom(0);
         h.split(0, true, 5);
