@@ -232,6 +232,9 @@ public final class ByteEdgesTest {
 
     private static void asking() {
         Edge.state("perhaps '?'", 4, 1, "~[?25l", 's', 0);
+        Edge.state("then numbers, 0 for one without digits", 4, 1, "~[?;25l", 's', 0);
+        Edge.state("then numbers, 4 at most", 4, 1, "~[?;;;25l", 's', 0);
+        Edge.state("a fifth number spoils it", 4, 1, "~[?25;;;;l", 's', 1);
         Edge.state("only one", 4, 1, "~[??25l", 's', 1);
         Edge.state("only ahead of the numbers", 4, 1, "~[2?5l~[25?l~[;?25l", 's', 1);
         Edge.state("it is gone as the next one begins", 4, 1, "~[?~[25l", 's', 1);

@@ -11,8 +11,8 @@ public final class RandomRunsTest {
         "\u001b[?25h", "\u001b[4h", "\u001b[4l", "\u001b7", "\u001b8", "\u001bD", "\u001bM", "\u001bc", "\u001b[6n",
         "\u001b[5n", "\u001b[s", "\u001b[u", "\u001b[?6;25h", "\u001b[1;2;3;4;5A", "\u001b[2:3A", "\u001b\u001b[B",
         "\u001b[2\nC", "\u001b[12345C", "\u001b[;5H", "\u001b[31;1m", "\u001b[0;7m", "\u001b[m", "\u001b[S",
-        "\u001b[2;4r",
-        "\u001b[3;9r", "\u001b[r", "\u001b[2J", "\u001b[?2J", "\u001bZ", "\t", "\b", "\r\n", "\n\n\n", "\u0007"};
+        "\u001b[2;4r", "\u001b[3;9r", "\u001b[r", "\u001b[2J", "\u001b[?2J", "\u001bZ", "\t", "\b", "\r\n", "\n\n\n",
+        "\u0007"};
 
     private final Random random;
     private final Panehouse house = new Panehouse();
@@ -179,8 +179,23 @@ public final class RandomRunsTest {
             return same("shown", () -> house.shown(c, row, column), () -> model.shown(c, row, column))
                     && same("shownMark", () -> house.shownMark(c, row, column), () -> model.shownMark(c, row, column));
         }
+        if (kind == 98) {
+            return fillUp(p);
+        }
         int sign = pick(260) - 2;
         return same("feed", () -> house.feed(p, sign), () -> model.feed(p, sign));
+    }
+
+    /** Answers and typed bytes up to as many as are kept, which other steps seldom come to. */
+    private boolean fillUp(int p) {
+        if (pick(2) == 0) {
+            return feed(p, (pick(2) == 0 ? "\u001b[6n" : "\u001b[5n").repeat(1 + pick(50)));
+        }
+        boolean isSame = true;
+        for (int i = pick(30); i >= 0 && isSame; i--) {
+            isSame = same("paste", () -> house.paste(p), () -> model.paste(p));
+        }
+        return isSame;
     }
 
     private boolean command(int c) {
